@@ -10,6 +10,7 @@ public final class ActsTest {
         plants();
         fells();
         carries();
+        undoesEach();
         undoes();
         keepsImages();
         refusesWrongNumbers();
@@ -103,6 +104,9 @@ public final class ActsTest {
         SunHouses w = Due.village("h4,0;f0,30,0;f1,30,0;v5;");
         w.years(1);
         Due.is("to the tree's place", w.house(0, 0), 0);
+        Due.is("count(4) of the first house", w.count(4), 1);
+        w.undo();
+        Due.is("count(4), undone", w.count(4), 0);
     }
 
     private static void passesYears() {
@@ -122,7 +126,7 @@ public final class ActsTest {
         x.years(19);
         Due.is("year 999", x.count(3), 999);
         Due.is("one more", x.years(1), FULL);
-        Due.is("the oak's age", x.tree(0, 2), 1000);
+        Due.is("the fir's age", x.tree(0, 2), 1000);
         Due.is("24 can be undone", x.count(5), 24);
         Due.is("undone", x.undo(), 23);
         Due.is("year 998", x.count(3), 998);
@@ -189,6 +193,30 @@ public final class ActsTest {
         Due.is("place 1", x.place(1, 2), 1);
         Due.is("place 4", x.place(4, 2), NONE);
         Due.is("two acts", x.count(5), 2);
+    }
+
+    private static void undoesEach() {
+        SunHouses x = Due.village("h1,1;f0,7,0;o2,12,19;l5,3,2;v3;v6;");
+        String first = Due.picture(x);
+        x.fell(1);
+        Due.is("felled, undone", x.undo(), 0);
+        Due.isTrue("as ahead of felling", first.equals(Due.picture(x)));
+        x.plant(9, 4);
+        Due.is("planted, undone", x.undo(), 0);
+        Due.isTrue("as ahead of planting", first.equals(Due.picture(x)));
+        x.carry(1, 11);
+        Due.is("carried, undone", x.undo(), 0);
+        Due.isTrue("as ahead of carrying", first.equals(Due.picture(x)));
+        x.years(2);
+        Due.is("a year of two, undone", x.undo(), 1);
+        Due.is("year 1", x.count(3), 1);
+        Due.is("the other, undone", x.undo(), 0);
+        Due.isTrue("as ahead of two years", first.equals(Due.picture(x)));
+        x.fell(9);
+        x.plant(0, 1);
+        x.carry(0, 3);
+        x.years(0);
+        Due.is("what is refused is no act", x.count(5), 0);
     }
 
     private static void undoes() {

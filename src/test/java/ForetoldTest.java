@@ -102,6 +102,8 @@ public final class ForetoldTest {
         Due.is("hidden, PLACE", x.hidden(0, 0, 0, 1, 16), Due.PLACE);
         Due.is("hidden, PLACE", x.hidden(0, 0, 0, -1, 1), Due.PLACE);
         Due.is("hidden, all 16", x.hidden(0, 0, 0, 0, 16), 0);
+        Due.is("seen, the last row", x.seen(7, 0), Due.NULL);
+        Due.is("hidden, the last row", x.hidden(0, 0, 7, 0, 1), Due.NULL);
     }
 
     private static void tellsLight() {

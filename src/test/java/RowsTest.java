@@ -29,9 +29,25 @@ public final class RowsTest {
         Due.is("row(7, 0, -1) leaves the row", x.row(7, 0, -1), Due.SIZE);
         Due.is("set(7, 39, 70000), an int yet", x.set(7, 39, 70000), 70000);
         Due.is("row(7, 2, 40) anew", x.row(7, 2, 40), 40);
-        x.row(6, 2, 40);
-        Due.is("copy of what is 0 again", x.copy(7, 0, 6, 0, 40), 40);
-        Due.is("count(0) with a row put in place", x.count(0), 3);
+        Due.is("count(0) with a row put in place", x.count(0), 2);
+        beginsWithNoughts();
+    }
+
+    /** The place behind moss has LIGHT 0 for all time: HIDDEN finds nothing but noughts there. */
+    private static void beginsWithNoughts() {
+        SunHouses x = Due.village("h0,0;m0,30,0;m11,0,0;");
+        x.row(7, 2, 16);
+        Due.is("noughts at first", x.hidden(1, 1, 7, 0, 16), 62);
+        for (int i = 0; i < 16; i++) {
+            x.set(7, i, 5);
+        }
+        Due.is("no noughts", x.hidden(1, 1, 7, 0, 16), 0);
+        x.row(7, 2, 16);
+        Due.is("noughts again", x.hidden(1, 1, 7, 0, 16), 62);
+        x.set(7, 15, 5);
+        x.drop(7);
+        x.row(7, 0, 16);
+        Due.is("noughts behind a drop", x.hidden(1, 1, 7, 0, 16), 62);
     }
 
     private static void sets() {
@@ -103,6 +119,13 @@ public final class RowsTest {
         Due.is("drop(0) again", x.drop(0), Due.NULL);
         x.row(0, 1, 0);
         Due.is("drop of an empty row", x.drop(0), 0);
+        Due.is("drop(7), missing", x.drop(7), Due.NULL);
+        x.row(7, 2, 40);
+        x.row(6, 2, 40);
+        Due.is("set(7, 39, 1)", x.set(7, 39, 1), 1);
+        Due.is("copy(6 to 7)", x.copy(6, 0, 7, 0, 40), 40);
+        Due.is("copy(7 to 6)", x.copy(7, 0, 6, 0, 40), 40);
+        Due.is("drop(7)", x.drop(7), 40);
     }
 
     private static void tellsStatus() {
