@@ -78,9 +78,10 @@ public final class MirrorTest {
 
     private void lightAndLives(int past, int d) {
         SunHouses y = fresh(past + d);
+        int[][] trees = treesOf(y);
         for (int p = 0; p < 12; p++) {
             Due.is(text + " light " + p + " in " + d, x.light(p, d), y.place(p, 0));
-            Due.is(text + " by hand " + p, y.place(p, 3), shadeByHand(y, p));
+            Due.is(text + " by hand " + p, y.place(p, 3), shadeByHand(trees, p));
         }
         for (int h = 0; h < x.count(2); h++) {
             Due.is(text + " lives " + h, x.lives(h, d, 0), y.house(h, 0));
@@ -88,17 +89,26 @@ public final class MirrorTest {
         }
     }
 
+    /** Of each tree its PLACE and how high it is. */
+    private static int[][] treesOf(SunHouses y) {
+        int[][] trees = new int[y.count(1)][];
+        for (int t = 0; t < trees.length; t++) {
+            trees[t] = new int[] {y.tree(t, 0), y.tree(t, 1)};
+        }
+        return trees;
+    }
+
     /** From the text's own law and where the trees are. */
-    private int shadeByHand(SunHouses y, int p) {
+    private int shadeByHand(int[][] trees, int p) {
         int slope = text.charAt(1) - '0';
         int winter = text.charAt(3) - '0';
         int shade = 0;
         for (int k = 0; k < 4; k++) {
             int falls = 3 + winter * k - slope;
             falls = falls < 1 ? 1 : falls;
-            for (int t = 0; t < y.count(1); t++) {
-                int further = p - y.tree(t, 0);
-                if (further >= 1 && y.tree(t, 1) > further * falls) {
+            for (int[] tree : trees) {
+                int further = p - tree[0];
+                if (further >= 1 && tree[1] > further * falls) {
                     shade |= 1 << k;
                 }
             }
@@ -127,11 +137,15 @@ public final class MirrorTest {
     }
 
     private void best(int past, int d) {
+        int[] homes = new int[12];
+        for (int p = 0; p < 12; p++) {
+            homes[p] = x.place(p, 2);
+        }
         for (int h = 0; h < x.count(2); h++) {
             int most = -1;
             int where = NONE;
             for (int p = 0; p < 12; p++) {
-                if (x.place(p, 2) == NONE || x.place(p, 2) == h) {
+                if (homes[p] == NONE || homes[p] == h) {
                     SunHouses y = fresh(past);
                     if (y.house(h, 0) != p) {
                         y.carry(h, p);
@@ -270,7 +284,8 @@ public final class MirrorTest {
     private void callsWildly() {
         x = new SunHouses();
         calls = 0;
-        while (calls < 512) {
+        // room for one text more
+        while (calls < 512 - 90) {
             int which = chance.nextInt(40);
             if (which >= 33) {
                 String hill = hillText();
